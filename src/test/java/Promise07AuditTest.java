@@ -3,6 +3,7 @@ public final class Promise07AuditTest {
 
     public static void main(String[] args) {
         everyOutcome();
+        aStandInOfNumberZero();
         theLatestTwelve();
         theLongestText();
         Tester.end();
@@ -28,6 +29,11 @@ public final class Promise07AuditTest {
         tester.due("new *", PolicyDesk.SYNTAX).due("class I", PolicyDesk.EXISTS);
         Tester.same("SYNTAX and what does not ask is not written", tester.audit(0), "10 cast Object ok 0");
         Tester.same("the one before", tester.audit(1), "9 new Object ok 0");
+    }
+
+    private static void aStandInOfNumberZero() {
+        Tester tester = new Tester().given("method Object.m ()V s", "shim ** Object.m");
+        last(tester, "call Budget.m ()V", "0 call Budget.m ()V shim 0");
     }
 
     private static void last(Tester tester, String line, String text) {

@@ -21,6 +21,9 @@ public final class Promise09TotalTest {
         for (int i = 1; i <= 100; i++) {
             after(tester, "cast A", 2002 + 999L * i);
         }
+        Tester first = new Tester().given("method Object.m ()V s", "shim ** Object.m");
+        after(first, "call Object.m ()V", 1); // SHIM and 0: the least of its answers
+        after(first, "call Budget.m ()V", 2);
         Tester.end();
     }
 

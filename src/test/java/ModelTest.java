@@ -3,7 +3,9 @@ import java.util.Random;
 /** Runs of up to 512 calls, the same ones each time, on the program and on the model of the document. */
 public final class ModelTest {
     private static final int RUNS = 1500;
-    private static final int CALLS = 512;
+    /** Each of these runs is cut short, so that calls are left in which to look at all of the desk. */
+    private static final int LOOKED_AT = 5;
+    private static final int SHORT = 300;
     private static final String[] NAMES = {"Object", "Budget", "a", "b", "a/b", "a/b/c", "a/bb", "ab", "I", "J", "a/J", "K/L", "E",
         "a/b/c/d", "abcdefghijkl/nopqrstuvwx"};
     private static final String[] BAD_NAMES = {"abcdefghijkl/nopqrstuvwxy", "a//b", "/a", "a/", "a.b", "*"};
@@ -14,25 +16,30 @@ public final class ModelTest {
     private static final String[] COSTS = {"0", "1", "7", "10", "250", "999", "1000", "01", "x"};
 
     private final Random random;
-    private final PolicyDesk desk = new PolicyDesk();
+    private final Tester desk = new Tester();
     private final Model model = new Model();
     private final StringBuilder calls = new StringBuilder();
     private final int silliness;
-    private int left = CALLS;
+    private int left;
 
-    private ModelTest(long seed) {
+    private ModelTest(long seed, int calls) {
         random = new Random(seed);
         silliness = 2 + random.nextInt(40);
+        left = calls;
     }
 
     public static void main(String[] args) {
         for (int run = 0; run < RUNS; run++) {
-            new ModelTest(run).run();
+            if (run % LOOKED_AT == 0) {
+                new ModelTest(run, SHORT).run().lookAtAll();
+            } else {
+                new ModelTest(run, Tester.MOST_CALLS).run();
+            }
         }
         Tester.end();
     }
 
-    private void run() {
+    private ModelTest run() {
         while (left > 0) {
             int dice = random.nextInt(100);
             if (dice < 88) {
@@ -47,10 +54,14 @@ public final class ModelTest {
                 look();
             }
         }
-        lookAtAll();
+        return this;
     }
 
     private void sayLine(String line) {
+        if (left <= line.length()) { // there may be as many calls of text as letters
+            look();
+            return;
+        }
         for (int i = 0; i < line.length();) {
             int end = Math.min(line.length(), i + 1 + random.nextInt(8));
             end = random.nextInt(4) == 0 ? end : Math.min(line.length(), i + 8);
@@ -78,7 +89,6 @@ public final class ModelTest {
         }
     }
 
-    /** What later calls answer is free, but to look changes nothing, so it is promised no less here. */
     private void lookAtAll() {
         for (int a = -1; a < 26; a++) {
             for (int what = -1; what < 9; what++) {

@@ -24,10 +24,10 @@ public final class Promise01NewObjectTest {
     private static void twoDesksShareNothing() {
         Tester one = new Tester().given("class A", "field A.f I", "allow **", "new A").type("cl");
         Tester other = new Tester();
-        Tester.same("classes of the other", other.desk.count(0), 2);
-        Tester.same("letters of the other", other.desk.count(6), 0);
-        Tester.same("rules of the other", other.desk.count(2), 0);
-        Tester.same("asks of the other", other.desk.count(3), 0);
-        Tester.same("letters of the one", one.desk.count(6), 2);
+        Tester.same("classes of the other", other.count(0), 2);
+        Tester.same("letters of the other", other.count(6), 0);
+        Tester.same("rules of the other", other.count(2), 0);
+        Tester.same("asks of the other", other.count(3), 0);
+        Tester.same("letters of the one", one.count(6), 2);
     }
 }

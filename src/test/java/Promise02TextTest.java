@@ -19,7 +19,7 @@ public final class Promise02TextTest {
         Tester.same("count(6)", desk.count(6), 15);
 
         Tester order = new Tester().type("class Ab");
-        Tester.same("the lowest comes first", order.desk.line(), 2);
+        Tester.same("the lowest comes first", order.line(), 2);
         order.due("class Ab", PolicyDesk.EXISTS);
     }
 

@@ -190,7 +190,7 @@ public final class Promise03AskTest {
         tester.given("shim ** A.t").due("call A.m ()V", SHIM + 2).due("call A.t ()V", SHIM + 3)
                 .due("get A.m I", DENIED).due("new A", DENIED).due("cast A", DENIED);
         tester.given("shim A.m A.t").due("call A.m ()V", SHIM + 3).given("cost ** 50").due("call A.m ()V", SHIM + 3);
-        Tester.same("total", tester.desk.total(), 6);
+        Tester.same("total", tester.total(), 6);
         new Tester().given("method Object.m ()V s", "shim Object Object.m").due("call Object.m ()V", SHIM);
     }
 }

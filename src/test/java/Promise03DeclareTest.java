@@ -28,10 +28,10 @@ public final class Promise03DeclareTest {
                 .due("interface K : A", KIND).due("interface K : I A", KIND).due("interface K : I I", KIND)
                 .due("interface K : Object", KIND).due("class B : I J I", KIND);
         tester.due("class B : A J I", 5).due("class a", 6).due("class A/A", 7).due("class C : Budget", 8);
-        Tester.same("classes", tester.desk.count(0), 9);
-        Tester.same("above B", tester.desk.cls(5, 0), 4);
-        Tester.same("first of B", tester.desk.cls(5, 3), 3);
-        Tester.same("second of B", tester.desk.cls(5, 4), 2);
+        Tester.same("classes", tester.count(0), 9);
+        Tester.same("above B", tester.cls(5, 0), 4);
+        Tester.same("first of B", tester.cls(5, 3), 3);
+        Tester.same("second of B", tester.cls(5, 4), 2);
     }
 
     private static void fourteenClasses() {
@@ -41,8 +41,8 @@ public final class Promise03DeclareTest {
         }
         tester.due("class D", FULL).due("interface D", FULL).due("class D : X", UNKNOWN).due("class C3", EXISTS)
                 .due("class D : I", KIND).due("interface D : I", FULL).due("interface D : C3", KIND);
-        Tester.same("classes", tester.desk.count(0), 14);
-        Tester.same("no class 14", tester.desk.cls(14, 0), UNKNOWN);
+        Tester.same("classes", tester.count(0), 14);
+        Tester.same("no class 14", tester.cls(14, 0), UNKNOWN);
         tester.due("field C13.f I", 0);
     }
 
@@ -57,8 +57,8 @@ public final class Promise03DeclareTest {
                 .due("method Object.finalize ()V n", KIND);
         tester.due("method B.finalize ()I", 6).due("method B.finalize (I)V", 7).due("field B.finalize I", 8)
                 .due("method B.Finalize ()V", 9);
-        Tester.same("members", tester.desk.count(1), 10);
-        Tester.same("members of a/A", tester.desk.cls(2, 5), 5);
+        Tester.same("members", tester.count(1), 10);
+        Tester.same("members of a/A", tester.cls(2, 5), 5);
     }
 
     private static void twentyFourMembers() {
@@ -68,8 +68,8 @@ public final class Promise03DeclareTest {
         }
         tester.due("field Object.g I", FULL).due("method Object.g ()V", FULL).due("field X.g I", UNKNOWN)
                 .due("field Object.f0 I", EXISTS).due("method Object.finalize ()V", KIND);
-        Tester.same("members", tester.desk.count(1), 24);
-        Tester.same("no member 24", tester.desk.member(24, 0), UNKNOWN);
+        Tester.same("members", tester.count(1), 24);
+        Tester.same("no member 24", tester.member(24, 0), UNKNOWN);
     }
 
     private static void shims() {
@@ -78,7 +78,7 @@ public final class Promise03DeclareTest {
         tester.due("shim ** X.m", UNKNOWN).due("shim ** A.x", UNKNOWN).due("shim ** A.f", UNKNOWN)
                 .due("shim ** B.s", UNKNOWN).due("shim ** A.m", KIND).due("shim ** A.n", KIND);
         tester.due("shim no/such/**.m A.s", 0).due("shim A A.s", 1).due("shim ** A.s", 2);
-        Tester.same("rules", tester.desk.count(2), 3);
+        Tester.same("rules", tester.count(2), 3);
     }
 
     private static void twentyFourRules() {
@@ -90,7 +90,7 @@ public final class Promise03DeclareTest {
         tester.due("allow **", FULL).due("deny **", FULL).due("cost ** 1", FULL).due("shim ** Object.s", FULL)
                 .due("shim ** X.s", UNKNOWN).due("shim ** Object.x", UNKNOWN).due("shim ** Object.m", KIND)
                 .due("cost ** 01", PolicyDesk.SYNTAX);
-        Tester.same("rules", tester.desk.count(2), 24);
+        Tester.same("rules", tester.count(2), 24);
         tester.due("new Object", 1);
     }
 }

@@ -24,8 +24,8 @@ public final class Promise03FormTest {
         for (String line : lines) {
             Tester tester = new Tester();
             tester.due(line, SYNTAX);
-            Tester.same("count(5) of [" + line + "]", tester.desk.count(5), 1);
-            Tester.same("the line is empty after [" + line + "]", tester.desk.count(6), 0);
+            Tester.same("count(5) of [" + line + "]", tester.count(5), 1);
+            Tester.same("the line is empty after [" + line + "]", tester.count(6), 0);
         }
     }
 
@@ -106,7 +106,7 @@ public final class Promise03FormTest {
                 .due("method Object.m ()V sn", 2).due("method Object.n ()V ns", 3);
         int[] marks = {1, 2, 3, 3};
         for (int m = 0; m < marks.length; m++) {
-            Tester.same("marks of " + m, tester.desk.member(m, 2), marks[m]);
+            Tester.same("marks of " + m, tester.member(m, 2), marks[m]);
         }
     }
 
@@ -154,7 +154,7 @@ public final class Promise03FormTest {
         }
         int[] counts = {2, 0, 1, 0, 0, 5, 0, 0};
         for (int what = 0; what < counts.length; what++) {
-            Tester.same("count(" + what + ")", tester.desk.count(what), counts[what]);
+            Tester.same("count(" + what + ")", tester.count(what), counts[what]);
         }
         Tester.same("no audit", tester.audit(0), null);
     }

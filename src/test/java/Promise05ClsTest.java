@@ -2,9 +2,9 @@ public final class Promise05ClsTest {
     private static final int UNKNOWN = PolicyDesk.UNKNOWN;
 
     public static void main(String[] args) {
-        PolicyDesk desk = new Tester().given("interface I", "interface p/Jay : I", "class A : Budget p/Jay",
+        Tester desk = new Tester().given("interface I", "interface p/Jay : I", "class A : Budget p/Jay",
                 "class some/long/Name/of/24ab : A p/Jay I", "interface K : I p/Jay", "field A.f I", "method A.m ()V",
-                "field A.f J", "method I.m ()V").desk;
+                "field A.f J", "method I.m ()V");
         row(desk, 0, -1, 0, 0, UNKNOWN, UNKNOWN, 0, 6);
         row(desk, 1, 0, 0, 0, UNKNOWN, UNKNOWN, 0, 6);
         row(desk, 2, 0, 1, 0, UNKNOWN, UNKNOWN, 1, 1);
@@ -21,7 +21,7 @@ public final class Promise05ClsTest {
         Tester.end();
     }
 
-    private static void row(PolicyDesk desk, int c, int... answers) {
+    private static void row(Tester desk, int c, int... answers) {
         for (int what = 0; what < answers.length; what++) {
             Tester.same("cls(" + c + ", " + what + ")", desk.cls(c, what), answers[what]);
         }

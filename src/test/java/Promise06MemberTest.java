@@ -2,8 +2,8 @@ public final class Promise06MemberTest {
     private static final int UNKNOWN = PolicyDesk.UNKNOWN;
 
     public static void main(String[] args) {
-        PolicyDesk desk = new Tester().given("class p/A", "field p/A.f I", "method p/A.long_name12 (I)V s",
-                "method Object.mm ()V n", "field Budget.$ LObject; ns", "method p/A.f ()V sn").desk;
+        Tester desk = new Tester().given("class p/A", "field p/A.f I", "method p/A.long_name12 (I)V s",
+                "method Object.mm ()V n", "field Budget.$ LObject; ns", "method p/A.f ()V sn");
         row(desk, 0, 2, 0, 0, 1);
         row(desk, 1, 2, 1, 1, 11);
         row(desk, 2, 0, 1, 2, 2);
@@ -18,7 +18,7 @@ public final class Promise06MemberTest {
         Tester.end();
     }
 
-    private static void row(PolicyDesk desk, int m, int... answers) {
+    private static void row(Tester desk, int m, int... answers) {
         for (int what = 0; what < answers.length; what++) {
             Tester.same("member(" + m + ", " + what + ")", desk.member(m, what), answers[what]);
         }

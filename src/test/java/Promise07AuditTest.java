@@ -39,9 +39,8 @@ public final class Promise07AuditTest {
     private static void last(Tester tester, String line, String text) {
         tester.say(line);
         Tester.same("audit(0, ..)", tester.audit(0), text);
-        PolicyDesk desk = tester.desk;
         for (int i : new int[] {-1, text.length(), text.length() + 1, Integer.MAX_VALUE, Integer.MIN_VALUE}) {
-            Tester.same("audit(0, " + i + ")", desk.audit(0, i), UNKNOWN);
+            Tester.same("audit(0, " + i + ")", tester.audit(0, i), UNKNOWN);
         }
     }
 
@@ -56,7 +55,7 @@ public final class Promise07AuditTest {
             }
         }
         for (int k : new int[] {-1, 12, Integer.MAX_VALUE, Integer.MIN_VALUE}) {
-            Tester.same("audit(" + k + ", 0)", tester.desk.audit(k, 0), UNKNOWN);
+            Tester.same("audit(" + k + ", 0)", tester.audit(k, 0), UNKNOWN);
         }
     }
 

@@ -1,7 +1,7 @@
 public final class Promise08BelowTest {
     public static void main(String[] args) {
-        PolicyDesk desk = new Tester().given("interface I", "interface J", "interface K : I J", "class A : Budget K",
-                "class B : A", "class C : Object J").desk;
+        Tester desk = new Tester().given("interface I", "interface J", "interface K : I J", "class A : Budget K",
+                "class B : A", "class C : Object J");
         String[] below = {
             "1.......", // Object
             "11......", // Budget
@@ -33,7 +33,7 @@ public final class Promise08BelowTest {
         }
         for (int c = 2; c < 14; c++) {
             for (int d = 2; d < 14; d++) {
-                Tester.same("below in a chain", tester.desk.below(c, d), c >= d ? 1 : 0);
+                Tester.same("below in a chain", tester.below(c, d), c >= d ? 1 : 0);
             }
         }
     }

@@ -29,6 +29,6 @@ public final class Promise09TotalTest {
 
     private static void after(Tester tester, String line, long total) {
         tester.say(line);
-        Tester.same("total after [" + line + "]", tester.desk.total(), total);
+        Tester.same("total after [" + line + "]", tester.total(), total);
     }
 }

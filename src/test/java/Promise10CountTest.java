@@ -28,17 +28,17 @@ public final class Promise10CountTest {
         counts(tester, 4, 3, 5, 10, 3, 3, 0, 5);
         tester.type("class A : Object");
         counts(tester, 4, 3, 5, 10, 3, 3, 16, 5);
-        tester.desk.drop();
+        tester.drop();
         counts(tester, 4, 3, 5, 10, 3, 3, 0, 5);
         for (int what : new int[] {-1, 8, 9, Integer.MAX_VALUE, Integer.MIN_VALUE}) {
-            Tester.same("count(" + what + ")", tester.desk.count(what), PolicyDesk.SYNTAX);
+            Tester.same("count(" + what + ")", tester.count(what), PolicyDesk.SYNTAX);
         }
         Tester.end();
     }
 
     private static void counts(Tester tester, int... due) {
         for (int what = 0; what < due.length; what++) {
-            Tester.same("count(" + what + ")", tester.desk.count(what), due[what]);
+            Tester.same("count(" + what + ")", tester.count(what), due[what]);
         }
     }
 }

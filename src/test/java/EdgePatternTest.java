@@ -186,5 +186,10 @@ public final class EdgePatternTest {
         members("B.*", false, false);
         members("B.f", false, false);
         members("p/A.f", true, false);
+        Tester tester = new Tester().given("class p/A", "class B : p/A", "method p/A.f ()V", "method p/A.s ()V s");
+        for (String tail : new String[] {"", ".*", ".f"}) {
+            tester.copy().given("shim B" + tail + " p/A.s").due("call B.f ()V", DENIED);
+            tester.copy().given("shim p/A" + tail + " p/A.s").due("call B.f ()V", PolicyDesk.SHIM + 1);
+        }
     }
 }

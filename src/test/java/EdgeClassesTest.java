@@ -62,6 +62,12 @@ public final class EdgeClassesTest {
         Tester tester = ready().due("class B", 5);
         row(tester, 5, 0, 0, 0, UNKNOWN, UNKNOWN);
         row(tester, 2, 0, 1, 0, UNKNOWN, UNKNOWN);
+        // What is not said is no class either, whatever the names of the others.
+        for (char name = 'a'; name <= 'z'; name++) {
+            tester = new Tester().due("interface " + name, 2).due("class B", 3).due("class C : B", 4);
+            row(tester, 3, 0, 0, 0, UNKNOWN, UNKNOWN);
+            row(tester, 4, 3, 0, 0, UNKNOWN, UNKNOWN);
+        }
     }
 
     private static void upToTwoInterfaces() {

@@ -73,6 +73,8 @@ public final class EdgeTypesTest {
             shape("(" + "[".repeat(deep) + "I)V", true);
             shape("()" + "[".repeat(deep) + "I", true);
             shape("(" + "[".repeat(deep + 1) + ")V", false);
+            shape("(" + "[".repeat(deep + 1), false); // neither closed nor a TYPE
+            shape("(I" + "[".repeat(deep), false);
             shape("()" + "[".repeat(deep + 1), false);
             shape("()[" + "[".repeat(deep) + "V", false);
         }
